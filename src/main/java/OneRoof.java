@@ -277,6 +277,8 @@ public final class OneRoof {
                 if (Long.bitCount(trial.left) >= fewest) continue;
                 fewest = Long.bitCount(trial.left);
                 worst = 100 * p + q;
+                // who strikes last is left, so it comes no worse than that
+                if (fewest <= 1) return worst;
             }
         }
         return worst;
@@ -492,13 +494,13 @@ public final class OneRoof {
             return size++;
         }
 
-        /** One who leaves late may leave behind the last hour: what is not paid is not paid then, either. */
         boolean isPaidBy(int feud, int hour) {
             return paid[feud] != UNPAID && paid[feud] <= hour;
         }
 
+        /** One who leaves late may leave behind the last hour: what is not paid is not paid then, either. */
         boolean isAlight(int feud, int hour) {
-            return since[feud] <= hour && !isPaidBy(feud, hour);
+            return since[feud] <= hour && (paid[feud] == UNPAID || hour < paid[feud]);
         }
 
         boolean turnsAt(int hour) {
@@ -509,12 +511,13 @@ public final class OneRoof {
         }
 
         int closeness(int feud, int p, int q, Kinship kinship) {
+            int[] steps = kinship.table;
             int bound = binding[feud], closest = NOT_NEAR;
-            int a = kinship.apart(p, killed[feud]), b = kinship.apart(q, killer[feud]);
+            int a = steps[p * MOST_PEOPLE + killed[feud]], b = steps[q * MOST_PEOPLE + killer[feud]];
             if (a <= bound && b <= bound) closest = a + b;
-            a = kinship.apart(q, killed[feud]);
-            b = kinship.apart(p, killer[feud]);
-            return a <= bound && b <= bound ? Math.min(closest, a + b) : closest;
+            a = steps[q * MOST_PEOPLE + killed[feud]];
+            b = steps[p * MOST_PEOPLE + killer[feud]];
+            return a <= bound && b <= bound && a + b < closest ? a + b : closest;
         }
 
         int nearest(int p, int q, int hour, Kinship kinship) {
@@ -543,6 +546,8 @@ public final class OneRoof {
         final int[] first = new int[MOST_PEACES];
         final int[] last = new int[MOST_PEACES];
         final int[] behind = new int[MOST_PEACES];
+        /** The last hour, and of salt those behind it: of a broken one, too, as it may become salt again. */
+        private final int[] until = new int[MOST_PEACES];
         final long[] covers = new long[MOST_PEACES];
         int size = 0;
 
@@ -556,34 +561,30 @@ public final class OneRoof {
             first[size] = from / 10000;
             last[size] = from % 10000;
             behind[size] = ofBehind;
+            until[size] = last[size] + (ofKind == SALT ? ofBehind : 0);
             covers[size] = ofCovers;
             return size++;
         }
 
-        int end(int peace) {
-            return last[peace] + (kind[peace] == SALT ? behind[peace] : 0);
-        }
-
         boolean standsAt(int peace, int hour) {
-            return first[peace] <= hour && hour <= end(peace);
+            return first[peace] <= hour && hour <= until[peace];
         }
 
         boolean turnsAt(int hour) {
             for (int i = 0; i < size; i++) {
-                if (first[i] == hour || end(i) + 1 == hour) return true;
+                if (first[i] == hour || until[i] + 1 == hour) return true;
             }
             return false;
         }
 
         boolean reaches(int peace, int p, int q, Folk folk) {
-            boolean ofP = isIn(covers[peace], p), ofQ = isIn(covers[peace], q);
-            int host = giver[peace];
+            long both = 1L << p | 1L << q, host = 1L << giver[peace], guests = covers[peace];
             switch (kind[peace]) {
-                case PEACE: return isIn(folk.line[p], host) && isIn(folk.line[q], host);
+                case PEACE: return (folk.line[p] & folk.line[q] & host) != 0;
                 case HEARTH:
-                case SALT: return ofP && (ofQ || q == host) || ofQ && p == host;
-                case ROAD: return ofP || ofQ;
-                case BOUGHT: return ofP && ofQ;
+                case SALT: return ((guests | host) & both) == both;
+                case ROAD: return (guests & both) != 0;
+                case BOUGHT: return (guests & both) == both;
                 case KING: return true;
                 default: return false;
             }
@@ -616,17 +617,16 @@ public final class OneRoof {
         private static final int NUMBER = '0', NAME = 'a', MINUS = '~';
         private static final int ARGUMENT = 16;
 
+        private final int[] text = new int[MOST_TAPE];
         private final int[] code = new int[MOST_TAPE + 2];
         private final int[] stack = new int[MOST_TAPE];
-        private int size = 0, named = 0;
-        private int[] text = code;
-        private int length = 0, at = 0;
+        private int length = 0, at = 0, size = 0, named = 0;
         private boolean stuck = false;
 
         Custom(String lines) {
-            int[] signs = new int[lines.length()];
-            for (int i = 0; i < signs.length; i++) signs[i] = lines.charAt(i);
-            read(signs, signs.length);
+            length = Math.min(lines.length(), text.length);
+            for (int i = 0; i < length; i++) text[i] = lines.charAt(i);
+            readLines();
         }
 
         boolean asks(int name) {
@@ -635,8 +635,12 @@ public final class OneRoof {
 
         /** -1, or the place of the first sign with which no text goes on. */
         int read(int[] signs, int ofLength) {
-            text = signs;
-            length = Math.min(ofLength, signs.length);
+            length = Math.min(Math.min(ofLength, signs.length), text.length);
+            System.arraycopy(signs, 0, text, 0, length);
+            return readLines();
+        }
+
+        private int readLines() {
             at = 0;
             size = 0;
             named = 0;
@@ -651,7 +655,7 @@ public final class OneRoof {
 
         private void readLine() {
             readPart(0, 0);
-            if (next() != '?') {
+            if (stuck || next() != '?') {
                 emit(';', 0);
                 return;
             }
@@ -1000,7 +1004,7 @@ public final class OneRoof {
         long payOff(int from, int to, int what) {
             listOpen(from);
             ruled = 0;
-            Arrays.fill(fails, false);
+            for (int set = 0; set < 1 << opened; set++) fails[set] = false;
             for (int hour = from; hour <= to; hour++) {
                 if (hour > from && !moment.turnsAt(hour)) continue;
                 moment.open(hour);
@@ -1169,20 +1173,16 @@ public final class OneRoof {
 
         private int firstHelp() {
             for (int r = 0; r < moment.folk.size; r++) {
-                if (!isIn(left, r)) continue;
                 for (int s = 0; s < moment.folk.size; s++) {
-                    if (s != r && isIn(left & strikers, s) && mustHelpAgainst(r, s)) return 100 * r + s;
+                    if (r == s || !isIn(left, r) || !isIn(left & strikers, s)) continue;
+                    for (int i = 0; i < blows; i++) {
+                        // one who struck more than once is struck for any of those blows
+                        if (row[i] / 100 != s) continue;
+                        if (moment.weigh(HELPS, r, s, row[i] % 100, left, Moment.AS_IT_IS) != 0) return 100 * r + s;
+                    }
                 }
             }
             return -1;
-        }
-
-        private boolean mustHelpAgainst(int r, int striker) {
-            for (int i = 0; i < blows; i++) {
-                if (row[i] / 100 != striker) continue;
-                if (moment.weigh(HELPS, r, striker, row[i] % 100, left, Moment.AS_IT_IS) != 0) return true;
-            }
-            return false;
         }
     }
 
@@ -1270,8 +1270,8 @@ public final class OneRoof {
     private static final class Acts {
         static final int SORTS = 4;
         private static final int HOLDS = 0, COVERS = 1, ENDS = 2, TELLS = 3;
-        private static final int NO_KIND = -1, DEEPEST = 40;
-        private static final int[] ABOVE = {NO_KIND, 0, 1, 0, 0, 4, 0};
+        private static final int DEEPEST = 40;
+        private static final int[] ABOVE = {-1, 0, 1, 0, 0, 4, 0};
         /** Of each kind its own bodies of holds, covers, ends, tells; 0: the kind above is asked. */
         private static final int[] BODIES = {
             1, 10, 11, 2,
@@ -1370,7 +1370,7 @@ public final class OneRoof {
         void hangRow(int peg, int ofSort, int n) {
             sort[peg] = ofSort;
             length[peg] = n;
-            Arrays.fill(cells, peg * LONGEST, (peg + 1) * LONGEST, 0L);
+            for (int i = 0; i < n; i++) cells[peg * LONGEST + i] = 0;
         }
 
         int refusalAt(int peg, int i) {
