@@ -67,6 +67,8 @@ public final class Promises {
         due("weight of the second", x.of(1, 1), 99);
         due("sword of the first", x.of(0, 2), 1);
         due("from place -1", x.people(1, -1, 1), 0);
+        due("one, though there are more", x.people(1, 0, 1), 1);
+        due("no more than that", x.count(0), 3);
         due("from place -3", x.people(1, -3, 2), 0);
         due("from behind the end", x.people(1, 8, 1), 0);
         due("from far behind", x.people(1, Integer.MAX_VALUE, 20), 0);
@@ -78,7 +80,7 @@ public final class Promises {
         x.row(2, 0, 60);
         for (int i = 0; i < 20; i++) { x.put(2, 3 * i, -1); x.put(2, 3 * i + 1, 1); }
         due("twenty", x.people(2, 0, 20), 20);
-        due("till full", x.people(2, 0, 20), 10);
+        due("till full", x.people(2, 0, 20), 9);
         due("full", x.people(2, 0, 20), 0);
         due("32 people", x.count(0), 32);
     }
@@ -349,11 +351,11 @@ public final class Promises {
         promise = 18;
         OneRoof x = hall(2);
         String[] fine = {"f", "n?c", "1;2;3", "f?1;n?2;3", "((((((f))))))", "!-!-!-w", "!(!(!(f)))", "1+2-3*4/5%6", "1-(-2)", "1--2",
-            "f<n&c>w|v=l", "0000", "9999", "(f<n)<c", "(f|n)&c", "k&o&d", "-1*-2", "!f=n", "(1)", "!(-3)+(-(-(-5)))"};
+            "f<n&c>w|v=l", "0000", "9999", "(f<n)<c", "(f|n)&c", "k&o&d", "-1*-2", "f?((((((n))))))", "f;-!-!-!n", "((((((f))))))+((((((n))))))", "!f=n", "(1)", "!(-3)+(-(-(-5)))"};
         for (String t : fine) due(t, tell(x, 0, t), 1);
         Object[][] faulty = {{"", 0}, {"?", 0}, {";", 0}, {"f;", 2}, {"f?", 2}, {"f?n?c", 3}, {"f?n;?", 4}, {"(f?n)", 2}, {"(f", 2}, {"()", 1},
             {"f)", 1}, {"(f))", 3}, {"12345", 4}, {"f<n<c", 3}, {"f=n>c", 3}, {"f n", 1}, {"fn", 1}, {"1f", 1}, {"f1", 1}, {"(((((((f", 6},
-            {"-!(-!((", 6}, {"(-(-(-(f", 6}, {"f+", 2}, {"f+*", 2}, {"+f", 0}, {"!", 1}, {"f!", 1}, {"F", 0}, {"x", 0}, {"f||n", 2}, {"f&", 2},
+            {"-!(-!((", 6}, {"((((((!f", 6}, {"((((((-f", 6}, {"(((((f)+(((f", 10}, {"(-(-(-(f", 6}, {"f+", 2}, {"f+*", 2}, {"+f", 0}, {"!", 1}, {"f!", 1}, {"F", 0}, {"x", 0}, {"f||n", 2}, {"f&", 2},
             {"0/?", 2}, {"f-?n", 2}, {"f+;n", 2}, {"(f;n)", 2}, {"f(n)", 1}};
         for (Object[] f : faulty) {
             due("fault of " + f[0], tell(x, 0, (String) f[0]), -100 - (Integer) f[1]);
@@ -830,6 +832,37 @@ public final class Promises {
         for (int i = 39; i >= 0; i--) due("redo", x.redo(), i);
         due("no more", x.redo(), -5);
         due("as it was", x.pay(0, 44), 44);
+        manyChanges();
+    }
+
+    /** 45 changes of three sorts by turns: the last 40 are undone and done again. */
+    private static void manyChanges() {
+        promise = 32;
+        OneRoof x = hall(3);
+        x.feud(1, 0, 0);
+        x.peace(4, 0, 10, 0);
+        for (int i = 0; i < 45; i++) due("change " + i, turn(x, i, after(i)), before(i));
+        for (int i = 44; i >= 5; i--) {
+            due("undo " + i, x.undo(), i - 5);
+            due("as it was ahead of " + i, turn(x, i, before(i)), before(i));
+        }
+        promise = 33;
+        for (int i = 5; i < 45; i++) {
+            due("redo " + i, x.redo(), 44 - i);
+            due("as it was behind " + i, turn(x, i, after(i)), after(i));
+        }
+    }
+
+    private static int turn(OneRoof x, int i, int v) {
+        return i % 3 == 0 ? x.pay(0, v) : i % 3 == 1 ? x.sword(1, v) : x.cover(0, 2, v);
+    }
+
+    private static int after(int i) {
+        return i % 3 == 0 ? i + 1 : (i / 3 + 1) % 2;
+    }
+
+    private static int before(int i) {
+        return i % 3 == 0 ? i < 3 ? 2400 : i - 2 : i / 3 % 2;
     }
 
     private static void act() {
@@ -917,7 +950,12 @@ public final class Promises {
         due("none", x.row(0, 3, 0), 1);
         due("no place", x.put(0, 0, 5), -13);
         due("60 again", x.row(0, 3, 60), 1);
-        due("0 at first", x.element(0, 59), 0);
+        for (int i = 0; i < 60; i++) x.put(0, i, i + 1);
+        due("the next peg", x.row(1, 3, 60), 1);
+        for (int i = 0; i < 60; i++) x.put(1, i, -1);
+        due("60 anew", x.row(0, 3, 60), 1);
+        for (int i = 0; i < 60; i++) due("0 at first", x.element(0, i), 0);
+        for (int i = 0; i < 60; i++) due("the next peg's", x.element(1, i), -1);
     }
 
     private static void put() {

@@ -178,7 +178,7 @@ public final class OneRoof {
         long living = there & ~folk.dead;
         if (!isIn(living, pq / 100) || !isIn(living, pq % 100)) return VOID;
         moment.open(hour);
-        return moment.weigh(MUST, pq / 100, pq % 100, Moment.NOBODY, living, Moment.AS_IT_IS);
+        return moment.weigh(MUST, pq / 100, pq % 100, Moment.NOBODY, living);
     }
 
     public int together(long there, int fromTo, int what) {
@@ -238,7 +238,7 @@ public final class OneRoof {
         if (!isGathering(living, MOST_LEAVING)) return BAD;
         guests.gather(living);
         guests.learnMeetings(hour, sf / 100, sf % 100);
-        return guests.depart(0, 0, 0);
+        return guests.firstOrder();
     }
 
     // ---- blows
@@ -307,9 +307,9 @@ public final class OneRoof {
     // ---- acts, pegs
 
     public int act(int peace, int act, int x) {
-        acts.ran = 0;
+        acts.forget();
         if (!peaces.has(peace) || act < 0 || act >= Acts.SORTS) return 0;
-        return acts.run(peaces.kind[peace], act, x, peace, 0);
+        return acts.start(peaces.kind[peace], act, x, peace);
     }
 
     public int trace(int i) {
@@ -482,6 +482,8 @@ public final class OneRoof {
         final int[] binding = new int[MOST_FEUDS];
         final int[] price = new int[MOST_FEUDS];
         final int[] paid = new int[MOST_FEUDS];
+        /** Those that are paid in thought, as bits. */
+        long settled = 0;
         int size = 0;
 
         int begin(int ofKilled, int ofKiller, int hour, int ofBinding, int ofPrice) {
@@ -494,13 +496,9 @@ public final class OneRoof {
             return size++;
         }
 
-        boolean isPaidBy(int feud, int hour) {
-            return paid[feud] != UNPAID && paid[feud] <= hour;
-        }
-
         /** One who leaves late may leave behind the last hour: what is not paid is not paid then, either. */
         boolean isAlight(int feud, int hour) {
-            return since[feud] <= hour && (paid[feud] == UNPAID || hour < paid[feud]);
+            return since[feud] <= hour && (paid[feud] == UNPAID || hour < paid[feud]) && (settled >>> feud & 1) == 0;
         }
 
         boolean turnsAt(int hour) {
@@ -526,6 +524,32 @@ public final class OneRoof {
                 if (isAlight(i, hour)) least = Math.min(least, closeness(i, p, q, kinship) * SCALE + i);
             }
             return least;
+        }
+
+        /** All that make two as near as they are, as bits; every bit there is, if none makes them so. */
+        long nearestOnes(int p, int q, int hour, Kinship kinship) {
+            int near = nearest(p, q, hour, kinship) / SCALE;
+            long ones = 0;
+            for (int i = 0; i < size; i++) {
+                if (isAlight(i, hour) && closeness(i, p, q, kinship) == near) ones |= 1L << i;
+            }
+            return near < NOT_NEAR ? ones : -1;
+        }
+
+        long firstOpen(int hour, int atMost) {
+            long open = 0;
+            for (int i = 0; i < size && Long.bitCount(open) < atMost; i++) {
+                if (paid[i] > hour) open |= 1L << i;
+            }
+            return open;
+        }
+
+        int priceOf(long bits) {
+            int sum = 0;
+            for (int i = 0; i < size; i++) {
+                if (isIn(bits, i)) sum += price[i];
+            }
+            return sum;
         }
 
         int pairsAt(int hour, Kinship kinship, int people) {
@@ -797,7 +821,7 @@ public final class OneRoof {
 
     /** All as it is at one hour; what has been worked out for a pair is kept till the next opening. */
     private static final class Moment {
-        static final int NOBODY = -1, AS_IT_IS = -1;
+        static final int NOBODY = -1;
         private static final int PAIRS = MOST_PEOPLE * (MOST_PEOPLE - 1) / 2;
         final Folk folk;
         final Kinship kinship;
@@ -855,13 +879,13 @@ public final class OneRoof {
             return heldBits[cell] & ~broken;
         }
 
-        /** What a custom gives for two; near is how near they are at feud, where that is asked as if. */
-        int weigh(int use, int p, int q, int struck, long there, int near) {
+        /** What a custom gives for two, and for one who was struck, where it is of use. */
+        int weigh(int use, int p, int q, int struck, long there) {
             Custom custom = customs[use];
             if (custom.asks(Custom.F) || custom.asks(Custom.N)) {
-                int nearness = near == AS_IT_IS ? nearKey(p, q) / Feuds.SCALE : near;
-                names[Custom.F] = nearness < Feuds.NOT_NEAR ? 1 : 0;
-                names[Custom.N] = Math.min(nearness, Feuds.NOT_NEAR);
+                int near = nearKey(p, q) / Feuds.SCALE;
+                names[Custom.F] = near < Feuds.NOT_NEAR ? 1 : 0;
+                names[Custom.N] = near;
             }
             if (custom.asks(Custom.C)) names[Custom.C] = Long.bitCount(held(p, q));
             if (custom.asks(Custom.O)) names[Custom.O] = folk.sharingLord(p, there);
@@ -877,19 +901,21 @@ public final class OneRoof {
             for (int p = 0; p < folk.size; p++) {
                 if (!isIn(there, p)) continue;
                 for (int q = 0; q < folk.size; q++) {
-                    if (p != q && isIn(there, q) && weigh(MUST, p, q, NOBODY, there, AS_IT_IS) != 0) return 100 * p + q;
+                    if (p != q && isIn(there, q) && weigh(MUST, p, q, NOBODY, there) != 0) return 100 * p + q;
                 }
             }
             return -1;
         }
 
+        boolean mustAlone(int p, int q) {
+            return weigh(MUST, p, q, NOBODY, 1L << p | 1L << q) != 0;
+        }
+
         boolean barred(int p, int q, int from, int to) {
-            long both = 1L << p | 1L << q;
             for (int h = from; h <= to; h++) {
                 if (h > from && !turnsAt(h)) continue;
                 open(h);
-                if (weigh(MUST, p, q, NOBODY, both, AS_IT_IS) != 0) return true;
-                if (weigh(MUST, q, p, NOBODY, both, AS_IT_IS) != 0) return true;
+                if (mustAlone(p, q) || mustAlone(q, p)) return true;
             }
             return false;
         }
@@ -897,19 +923,13 @@ public final class OneRoof {
 
     /** Told people, by their places among themselves. */
     private static final class Guests {
-        private static final int MOST_BOUGHT = 10, UNPAYABLE = 1 << MOST_BOUGHT, RULES = 64;
+        private static final int MOST_BOUGHT = 10;
         private final Moment moment;
         private final int[] list = new int[MOST_TOLD];
         private int size = 0;
         /** Of each place the places that it bars. */
         private final int[] barring = new int[MOST_TOLD];
         private final int[] heaviestWithin = new int[1 << MOST_TOLD];
-        private final int[] open = new int[MOST_BOUGHT];
-        private int opened = 0;
-        private final int[] byNearness = new int[Feuds.NOT_NEAR];
-        private final boolean[] fails = new boolean[1 << MOST_BOUGHT];
-        private final int[] rules = new int[RULES];
-        private int ruled = 0;
         /** Of each turn and place the places that it would meet, if it left then and close behind. */
         private final int[] meeting = new int[MOST_LEAVING * MOST_LEAVING];
         private final int[] order = new int[MOST_LEAVING];
@@ -1001,94 +1021,35 @@ public final class OneRoof {
             }
         }
 
+        /** A pair that bars does so until all of its nearest feuds are paid: every set that will do has those in it. */
         long payOff(int from, int to, int what) {
-            listOpen(from);
-            ruled = 0;
-            for (int set = 0; set < 1 << opened; set++) fails[set] = false;
+            Feuds feuds = moment.feuds;
+            long payable = feuds.firstOpen(from, MOST_BOUGHT), paid = 0;
+            for (int round = 0; round <= MOST_BOUGHT; round++) {
+                feuds.settled = paid;
+                long pressing = pressingFeuds(from, to);
+                feuds.settled = 0;
+                if (pressing == 0) return what == 0 ? feuds.priceOf(paid) : paid;
+                if ((pressing & ~payable) != 0) return NOT;
+                paid |= pressing;
+            }
+            return NOT;
+        }
+
+        /** The nearest feuds of the first pair that bars, as bits; 0: none does. */
+        private long pressingFeuds(int from, int to) {
             for (int hour = from; hour <= to; hour++) {
                 if (hour > from && !moment.turnsAt(hour)) continue;
                 moment.open(hour);
                 for (int i = 0; i < size; i++) {
                     for (int j = 0; j < size; j++) {
-                        if (i != j) learnPayments(list[i], list[j], hour);
+                        if (i != j && moment.mustAlone(list[i], list[j])) {
+                            return moment.feuds.nearestOnes(list[i], list[j], hour, moment.kinship);
+                        }
                     }
                 }
             }
-            return cheapest(what);
-        }
-
-        private void listOpen(int hour) {
-            opened = 0;
-            for (int i = 0; i < moment.feuds.size && opened < open.length; i++) {
-                if (!moment.feuds.isPaidBy(i, hour)) open[opened++] = i;
-            }
-        }
-
-        /** The nearest feud that is not paid decides, so it is enough to ask once for each nearness that two have. */
-        private void learnPayments(int p, int q, int hour) {
-            Arrays.fill(byNearness, 0);
-            for (int i = 0; i < moment.feuds.size; i++) {
-                if (!moment.feuds.isAlight(i, hour)) continue;
-                int nearness = moment.feuds.closeness(i, p, q, moment.kinship);
-                if (nearness < byNearness.length) byNearness[nearness] |= payableBit(i);
-            }
-            int nearer = 0;
-            long both = 1L << p | 1L << q;
-            for (int near = 0; near <= Feuds.NOT_NEAR && (nearer & UNPAYABLE) == 0; near++) {
-                int these = near < Feuds.NOT_NEAR ? byNearness[near] : UNPAYABLE;
-                if (these == 0) continue;
-                if (moment.weigh(MUST, p, q, Moment.NOBODY, both, near) != 0) forbid(nearer, these);
-                nearer |= these;
-            }
-        }
-
-        private int payableBit(int feud) {
-            for (int i = 0; i < opened; i++) {
-                if (open[i] == feud) return 1 << i;
-            }
-            return UNPAYABLE;
-        }
-
-        /** No set will do that pays all of the nearer feuds, but not all of these. */
-        private void forbid(int nearer, int these) {
-            int rule = these << MOST_BOUGHT + 1 | nearer;
-            for (int i = 0; i < ruled; i++) {
-                if (rules[i] == rule) return;
-            }
-            // the list only spares work: a rule that finds no room in it is worked out again
-            if (ruled < rules.length) rules[ruled++] = rule;
-            for (int set = 0; set < 1 << opened; set++) {
-                if ((set & nearer) == nearer && (set & these) != these) fails[set] = true;
-            }
-        }
-
-        private long cheapest(int what) {
-            int best = -1, least = 0;
-            for (int set = 0; set < 1 << opened; set++) {
-                if (fails[set]) continue;
-                int price = priceOf(set);
-                if (best >= 0 && (price > least || price == least && Integer.bitCount(set) >= Integer.bitCount(best))) continue;
-                best = set;
-                least = price;
-            }
-            if (best < 0) return NOT;
-            return what == 0 ? least : asFeuds(best);
-        }
-
-        private int priceOf(int set) {
-            int price = 0;
-            for (int i = 0; i < opened; i++) {
-                if (isIn(set, i)) price += moment.feuds.price[open[i]];
-            }
-            return price;
-        }
-
-        private long asFeuds(int set) {
-            long bits = 0;
-            for (int i = 0; i < opened; i++) {
-                if (isIn(set, i)) bits |= 1L << open[i];
-            }
-            return bits;
+            return 0;
         }
 
         void learnMeetings(int hour, int start, int fast) {
@@ -1108,8 +1069,12 @@ public final class OneRoof {
             return moment.folk.road[p] == moment.folk.road[q] && moment.nearKey(p, q) < Feuds.NONE && moment.held(p, q) == 0;
         }
 
+        int firstOrder() {
+            return depart(0, 0, 0);
+        }
+
         /** The first order in which the rest can leave behind those who have their turns, all as digits; or NOT. */
-        int depart(int turn, int gone, int digits) {
+        private int depart(int turn, int gone, int digits) {
             if (turn >= size || turn >= MOST_LEAVING) return digits;
             for (int i = 0; i < size; i++) {
                 if (isIn(gone, i) || meetsEarlier(turn, i)) continue;
@@ -1178,7 +1143,7 @@ public final class OneRoof {
                     for (int i = 0; i < blows; i++) {
                         // one who struck more than once is struck for any of those blows
                         if (row[i] / 100 != s) continue;
-                        if (moment.weigh(HELPS, r, s, row[i] % 100, left, Moment.AS_IT_IS) != 0) return 100 * r + s;
+                        if (moment.weigh(HELPS, r, s, row[i] % 100, left) != 0) return 100 * r + s;
                     }
                 }
             }
@@ -1293,8 +1258,16 @@ public final class OneRoof {
             return false;
         }
 
-        /** Runs an act of peace n of its own kind. */
-        int run(int kind, int act, int x, int n, int depth) {
+        void forget() {
+            ran = 0;
+        }
+
+        int start(int kind, int act, int x, int n) {
+            return run(kind, act, x, n, 0);
+        }
+
+        /** Runs an act of peace n as its own kind has it. */
+        private int run(int kind, int act, int x, int n, int depth) {
             return runFrom(kind, kind, act, x, n, depth);
         }
 
