@@ -128,12 +128,11 @@ public final class NaiveCompare {
         }
         long most(long told, long refuse, int ft) {
             if (!set(told) || !set(refuse) || !window(ft)) return -1;
+            for (int i = 0; i < people.size(); i++) if ((refuse >> i & 1) != 0 && (told >> i & 1) == 0) return -1;
             List<Integer> l = living(told);
             long need = 0;
             for (int i : living(refuse)) need |= 1L << i;
             if (l.isEmpty() || l.size() > 12) return -1;
-            long all = bits(l, -1);
-            if ((need & ~all) != 0) return -1;
             boolean[][] bar = barTable(l, ft);
             long best = -2;
             int bw = -1, bn = -1;

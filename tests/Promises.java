@@ -495,6 +495,11 @@ public final class Promises {
         due("2 can't be refused", x.most(0b001101, 0b100, 0), 0b100);
         due("0 and 2 bar one another", x.most(63, 0b101, 0), -2);
         due("refuse one not told", x.most(3, 4, 0), -1);
+        due("refuse one told and one not told", x.most(3, 5, 0), -1);
+        due("refuse one to come", x.most(63, 64, 0), -1);
+        due("refuse a bit behind all people", x.most(63, 1L << 40, 0), -1);
+        due("refuse -1", x.most(63, -1, 0), -1);
+        due("refuse just those told", x.most(0b1001, 0b1001, 0), 0b1001);
         due("nobody told", x.most(0, 0, 0), -1);
         due("one to come", x.most(127, 0, 0), -1);
         due("told -1", x.most(-1, 0, 0), -1);
@@ -504,7 +509,10 @@ public final class Promises {
         due("thirteen", y.most(8191, 0, 0), -1);
         tell(y, 1, "0");
         y.strike(1, 3, 0, 1);
-        due("the dead are not told", y.most(8191, 2, 0), 8189);
+        due("the dead are not told", y.most(8191, 0, 0), 8189);
+        due("one dead among the told and among those not refused", y.most(8191, 2, 0), 8189);
+        due("refuse one who is dead and not told", y.most(0b101, 2, 0), -1);
+        due("refuse one told, and one who is dead and not told", y.most(0b101, 3, 0), -1);
         due("all told are dead", y.most(2, 0, 0), -1);
     }
 

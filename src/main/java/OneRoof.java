@@ -200,12 +200,13 @@ public final class OneRoof {
     }
 
     public long most(long told, long refuse, int fromTo) {
-        if (!folk.isSet(told) || !folk.isSet(refuse) || !isWindow(fromTo)) return BAD;
-        long living = told & ~folk.dead, needed = refuse & ~folk.dead;
-        if (!isGathering(living, MOST_TOLD) || (needed & ~living) != 0) return BAD;
+        // looked at ahead of the dead: one who is not told is not as said, dead or alive
+        if (!folk.isSet(told) || (refuse & ~told) != 0 || !isWindow(fromTo)) return BAD;
+        long living = told & ~folk.dead;
+        if (!isGathering(living, MOST_TOLD)) return BAD;
         guests.gather(living);
         guests.learnBars(fromTo / 10000, fromTo % 10000);
-        return guests.heaviest(needed);
+        return guests.heaviest(refuse & living);
     }
 
     public long rooms(long told, int fromTo, int what) {
