@@ -42,7 +42,7 @@ public final class AnyArguments {
         OneRoof x = seed % 3 == 0 ? new OneRoof() : crowded(dice, seed % 3 == 1 ? 8 : 32);
         long digest = 0;
         List<Method> calls = face();
-        for (int i = 0; i < 300; i++) {
+        for (int i = 0; i < 280; i++) {
             Method m = calls.get(dice.nextInt(calls.size()));
             Object[] arguments = new Object[m.getParameterCount()];
             for (int a = 0; a < arguments.length; a++) {

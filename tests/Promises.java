@@ -17,7 +17,11 @@ public final class Promises {
     }
 
     private static int tell(OneRoof x, int use, String text) {
-        for (int i = 0; i < text.length(); i++) x.feed(1, text.charAt(i));
+        for (int i = 0; i < text.length(); i += 4) {
+            int n = Math.min(4, text.length() - i), v = 0;
+            for (int j = 0; j < n; j++) v |= text.charAt(i + j) << 8 * j;
+            x.feed(n, v);
+        }
         return x.custom(use);
     }
 
