@@ -269,6 +269,25 @@ public final class BoundsBlows extends Bounds {
         due(y.worst(21, 0), 2);
         due(y.worst(28, 0), 203);
         due(y.worst(30, 0), 201);
+        says(30, "by whose ROW fewest are LEFT alive: one, behind others by which two are");
+        Hall u = calm(3);
+        u.kin(1, 2);
+        u.sword(1, 1);
+        u.tell(HELPS, "d=1&w");
+        due(u.worst(7, 0), 2);
+        says(30, "the first pair (p, then q), at that HOUR: q may be the first one there is");
+        Hall v = Hall.with(3);
+        v.kin(0, 1);
+        v.sword(1, 1);
+        due(v.worst(7, 5), 200);
+        v.feud(2, 10, 0);
+        due(v.worst(7, 9), 200);
+        due(v.worst(7, 10), 1);
+        due(v.worst(7, 9), 200);
+        due(v.must(2, 7, 10), 1);
+        due(v.worst(7, 9), 200);
+        due(v.must(2, 7, 9), 0);
+        due(v.worst(7, 10), 1);
         says(30, "the dead are gone: they are no more THERE");
         x.tell(HELPS, "0");
         x.strike(1, 3, 0, 1);
@@ -510,6 +529,39 @@ public final class BoundsBlows extends Bounds {
         due(y.ofPeace(59, 0), BROKEN);
     }
 
+    /** The i-th of changes of three sorts by turns: PAID, SWORDS, COVERS. */
+    private static int turn(Hall x, int i, int v) {
+        return i % 3 == 0 ? x.pay(0, v) : i % 3 == 1 ? x.sword(1, v) : x.cover(0, 2, v);
+    }
+
+    private static int after(int i) {
+        return i % 3 == 0 ? i + 1 : (i / 3 + 1) % 2;
+    }
+
+    private static int before(int i) {
+        return i % 3 == 0 ? i < 3 ? 2400 : i - 2 : i / 3 % 2;
+    }
+
+    private static void mixedChanges() {
+        says(32, "40 at most are kept: of unlike sorts, each with its own number");
+        Hall x = Hall.with(3);
+        x.feud(1, 0, 0);
+        x.peace(4, 0, 10, 0);
+        for (int i = 0; i < 44; i++) due(turn(x, i, after(i)), before(i));
+        due(x.count(5), 40);
+        for (int i = 43; i >= 4; i--) {
+            due(x.undo(), i - 4);
+            due(turn(x, i, before(i)), before(i));
+        }
+        due(x.undo(), STATE);
+        says(33, "DONE AGAIN: 40 of unlike sorts");
+        for (int i = 4; i < 44; i++) {
+            due(x.redo(), 43 - i);
+            due(turn(x, i, after(i)), after(i));
+        }
+        due(x.redo(), STATE);
+    }
+
     private static void brokenInOrder() {
         says(32, "the latest first: of one strike what a later blow broke, then what an earlier one did");
         Hall x = Hall.with(3);
@@ -542,6 +594,7 @@ public final class BoundsBlows extends Bounds {
         undoAndRedo();
         behindIt();
         fortyChanges();
+        mixedChanges();
         brokenInOrder();
         end();
     }

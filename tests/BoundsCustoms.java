@@ -417,6 +417,67 @@ public final class BoundsCustoms extends Bounds {
         due(z.strike(1, 3 | 1 << 9, 0, 0), 2);
     }
 
+    /** 0 strikes 1, and 2 is there: whether it helps. */
+    private static void helps(Hall x, String text, boolean want) {
+        x.tell(MUST, "0");
+        due(x.tell(HELPS, text), 1);
+        due(x.strike(1, 7, 10, 0), want ? 2 : 1);
+        if (want) due(x.blow(1), 200);
+    }
+
+    private static void namesOfHelps() {
+        says(27, "of HELPS the two are r and who struck: f, n");
+        Hall x = Hall.with(3);
+        x.feud(201, 0, 0);
+        helps(x, "f", false);
+        helps(x, "n<9", false);
+        x.feud(200, 10, 0);
+        helps(x, "f", true);
+        helps(x, "n=0", true);
+        x.pay(1, 10);
+        helps(x, "f", false);
+        helps(x, "n=9", true);
+        says(27, "of HELPS: c, of PEACES that are not BROKEN by the blow");
+        helps(x, "c", false);
+        x.peace(4, 5, 100010, 0);
+        helps(x, "c=1", true);
+        x.peace(4, 7, 100010, 0);
+        helps(x, "c=1", true);
+        x.peace(15, 0, 100010, 0);
+        helps(x, "c=2", true);
+        says(27, "of HELPS: w, v");
+        helps(x, "w", false);
+        helps(x, "v", false);
+        x.sword(1, 1);
+        helps(x, "w|v", false);
+        x.sword(2, 1);
+        helps(x, "w&!v", true);
+        x.sword(0, 1);
+        x.sword(2, 0);
+        helps(x, "v&!w", true);
+        says(27, "of HELPS: k, d");
+        helps(x, "k=9&d=9", true);
+        x.kin(0, 2);
+        helps(x, "k=1&d=9", true);
+        x.kin(0, 1);
+        helps(x, "k=1&d=2", true);
+        helps(x, "d<2", false);
+        says(27, "of HELPS: o, of those alive there");
+        helps(x, "o=2", true);
+        helps(x, "o>2", false);
+        says(27, "of HELPS: l, whether who struck is the LORD of r");
+        helps(x, "l", false);
+        Hall y = new Hall();
+        y.person(-1, 5, 0);
+        y.person(-1, 5, 0);
+        y.person(0, 5, 0);
+        helps(y, "l", true);
+        helps(y, "o=1", true);
+        Hall z = new Hall();
+        for (int i = 0; i < 3; i++) z.person(i == 2 ? 1 : -1, 5, 0);
+        helps(z, "l", false);
+    }
+
     private static void mustArguments() {
         says(19, "VOID: BAD (one and the same, dead, not THERE)");
         Hall x = Hall.with(4);
@@ -463,6 +524,7 @@ public final class BoundsCustoms extends Bounds {
         nearAndSteps();
         swordsAndLords();
         namesOfUses();
+        namesOfHelps();
         mustArguments();
         end();
     }

@@ -296,6 +296,11 @@ public final class BoundsPeaces extends Bounds {
         due(x.between(201, 100), 60);
         due(x.between(1, 101), 0);
         due(x.between(1, 0), 1);
+        says(15, "between two: whichever of them is named first");
+        Hall y = Hall.with(32);
+        y.peace(BOUGHT, 1L << 31 | 2, 10, 0);
+        for (int pq : new int[] {131, 3101}) due(y.between(pq, 5), 1);
+        for (int pq : new int[] {31, 3100, 130, 3001, 3130, 3031, 231, 3102}) due(y.between(pq, 5), 0);
     }
 
     private static void proof() {
@@ -328,6 +333,12 @@ public final class BoundsPeaces extends Bounds {
         due(y.proof(1, 9), NOT);
         due(y.proof(1, 10), NOT);
         due(y.proof(102, 9), NOT);
+        says(16, "between them: whichever is named first");
+        Hall z = Hall.with(32);
+        z.peace(BOUGHT, 3, 10, 0);
+        z.peace(BOUGHT, 1L << 31 | 2, 10, 0);
+        for (int pq : new int[] {131, 3101}) due(z.proof(pq, 5), 1);
+        for (int pq : new int[] {31, 3100, 130, 3001, 3130, 3031, 231, 3102}) due(z.proof(pq, 5), NOT);
     }
 
     public static void main(String[] args) {
