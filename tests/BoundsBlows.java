@@ -172,6 +172,29 @@ public final class BoundsBlows extends Bounds {
         due(x.must(203, 15, 5), 0);
         due(x.strike(1, 15, 11, 0), 2);
         due(x.strike(1, 3, 5, 0), 1);
+        says(27, "are BROKEN: by an earlier blow, and by a later one, till the telling ends");
+        Hall u = Hall.with(6);
+        u.feud(203, 0, 0);
+        u.feud(405, 0, 0);
+        u.peace(1, 63, 10, 0);
+        due(u.strike(1, 63, 5, 0), 3);
+        row(u, 1, 203, 405);
+        due(u.alive(), 0b010101);
+        u.peace(24, 4 | 8, 200030, 0);
+        u.peace(1, 63, 200030, 0);
+        due(u.strike(1, 63, 25, 0), 2);
+        row(u, 1, 405);
+        u.peace(21, 48, 400050, 0);
+        due(u.strike(1, 63, 45, 0), 2);
+        row(u, 1, 203);
+        u.peace(25, 0, 600070, 0);
+        u.peace(1, 3 | 4 | 8, 600070, 0);
+        due(u.strike(1, 63, 65, 0), 1);
+        due(u.strike(203, 63, 65, 0), 2);
+        row(u, 203, 405);
+        due(u.strike(1, 63, 5, 1), 3);
+        due(u.count(5), 1);
+        due(u.ofPeace(0, 0), BROKEN);
         says(27, "THERE: o counts those alive");
         Hall y = Hall.with(5);
         y.tell(HELPS, "0");
@@ -200,6 +223,40 @@ public final class BoundsBlows extends Bounds {
         due(z.together(ALL, 0, 0), NOT);
         due(z.worst(ALL, 0), NOT);
         due(z.strike(3130, ALL, 0, 0), BAD);
+    }
+
+    private static void whoStruckByThen() {
+        says(27, "some one alive who struck by then: not in the latest blow alone, the first by numbers");
+        Hall x = Hall.with(5);
+        x.feud(203, 0, 0);
+        x.sword(4, 1);
+        x.tell(HELPS, "o<4&w");
+        due(x.strike(1, 31, 0, 0), 4);
+        row(x, 1, 203, 400, 402);
+        due(x.alive(), 16);
+        says(27, "d STEPS of r and who was struck: by the one whom r would strike");
+        Hall y = Hall.with(6);
+        y.feud(203, 0, 0);
+        y.sword(4, 1);
+        y.kin(3, 4);
+        due(y.strike(1, 31, 0, 0), 3);
+        row(y, 1, 203, 402);
+        due(y.alive(), 17);
+        y.kin(1, 5);
+        y.sword(5, 1);
+        due(y.strike(1, 63, 0, 0), 4);
+        row(y, 1, 500, 203, 402);
+        due(y.alive(), 48);
+        says(27, "some one alive who struck: not the one who was struck since, nor one who struck in an earlier telling");
+        Hall z = calm(4);
+        z.tell(HELPS, "w");
+        z.sword(3, 1);
+        due(z.strike(1, 3, 0, 0), 1);
+        due(z.strike(201, 14, 0, 0), 2);
+        row(z, 201, 302);
+        due(z.strike(201, 15, 0, 0), 2);
+        row(z, 201, 302);
+        due(z.alive(), 9);
     }
 
     private static void blowAndAlive() {
@@ -529,6 +586,16 @@ public final class BoundsBlows extends Bounds {
         due(y.ofPeace(59, 0), BROKEN);
     }
 
+    private static void manyChanges() {
+        says(32, "An object is used for at most 512 calls: changes in all of them, and one UNDONE by the last");
+        Hall x = Hall.with(2);
+        x.feud(1, 0, 0);
+        for (int i = 0; i < 506; i++) due(x.pay(0, i % 2 == 0 ? 7 : 8), i == 0 ? 2400 : i % 2 == 0 ? 8 : 7);
+        due(x.count(5), 40);
+        due(x.undo(), 39);
+        due(x.near(0, 1, 7, 0), NOT);
+    }
+
     /** The i-th of changes of three sorts by turns: PAID, SWORDS, COVERS. */
     private static int turn(Hall x, int i, int v) {
         return i % 3 == 0 ? x.pay(0, v) : i % 3 == 1 ? x.sword(1, v) : x.cover(0, 2, v);
@@ -587,6 +654,7 @@ public final class BoundsBlows extends Bounds {
         broken();
         helps();
         inSteps();
+        whoStruckByThen();
         blowAndAlive();
         worst();
         wedArguments();
@@ -594,6 +662,7 @@ public final class BoundsBlows extends Bounds {
         undoAndRedo();
         behindIt();
         fortyChanges();
+        manyChanges();
         mixedChanges();
         brokenInOrder();
         end();

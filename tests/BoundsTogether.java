@@ -95,6 +95,33 @@ public final class BoundsTogether extends Bounds {
         due(z.together(15, 60010, 1), 0);
     }
 
+    private static void togetherWithAllThereMayBe() {
+        says(20, "from an HOUR to an HOUR, with as many FEUDS and PEACES as there may be: the last of both");
+        Hall x = Hall.with(4);
+        for (int i = 0; i < 39; i++) x.feud(1, 2399, 0);
+        x.feud(203, 40, 7);
+        for (int i = 0; i < 59; i++) x.peace(4, 3, 23992399, 0);
+        x.peace(4, 12, 43, 0);
+        due(x.together(15, 47, 0), 44);
+        due(x.together(15, 47, 1), 2);
+        due(x.together(15, 43, 0), NOT);
+        due(x.together(3, 23522399, 0), NOT);
+        due(x.bars(203, 47), 1);
+        due(x.bars(203, 43), 0);
+        due(x.most(15, 0, 47), 7);
+        due(x.most(15, 0, 43), 15);
+        due(x.rooms(15, 47, 1), 7);
+        for (int i = 0; i < 39; i++) x.pay(i, 0);
+        due(x.buy(15, 47, 1), 1L << 39);
+        due(x.buy(15, 43, 1), 0);
+        x.pay(39, 45);
+        due(x.together(15, 47, 0), 44);
+        x.pay(39, 44);
+        due(x.together(15, 47, 0), NOT);
+        x.cover(59, 3, 0);
+        due(x.together(15, 47, 0), 40);
+    }
+
     private static void togetherSets() {
         says(20, "(p is not q): nobody, and one alone");
         Hall x = Hall.with(32);
@@ -163,6 +190,12 @@ public final class BoundsTogether extends Bounds {
         two.tell(0, "o=2");
         due(two.bars(1, 0), 1);
         due(two.bars(100, 0), 1);
+        Hall many = Hall.with(32);
+        many.tell(0, "o=2&v");
+        due(many.bars(3031, 0), 0);
+        many.sword(31, 1);
+        for (int pq : new int[] {3031, 3130, 131, 3101, 31}) due(many.bars(pq, 0), 1);
+        due(many.bars(3029, 0), 0);
         says(21, "(dead or not)");
         kill(x, 1, 0);
         due(x.bars(1, 0), 0);
@@ -248,6 +281,13 @@ public final class BoundsTogether extends Bounds {
         due(y.most(25, 0, 0), 1);
         due(y.most(24, 0, 0), 8);
         due(y.most(30, 0, 0), 14);
+        Hall v = new Hall();
+        for (int weight : new int[] {3, 3, 6, 6}) v.person(-1, weight, 0);
+        for (int pq : new int[] {2, 102, 3, 103, 203}) v.feud(pq, 0, 0);
+        due(v.most(7, 0, 0), 3);
+        due(v.most(15, 0, 0), 3);
+        due(v.most(13, 0, 0), 4);
+        due(v.most(15, 8, 0), 8);
         says(22, "all who can come are in it: nobody bars");
         Hall z = Hall.with(12);
         due(z.most(4095, 0, 0), 4095);
@@ -326,6 +366,14 @@ public final class BoundsTogether extends Bounds {
         z.feud(102, 0, 0);
         due(z.rooms(15, 0, 0), 10);
         due(z.rooms(15, 0, 1), 5);
+        says(23, "two who bar one another: one in each, the first one the heavier, wherever it stands");
+        for (int heavier = 0; heavier < 2; heavier++) {
+            Hall pair = new Hall();
+            for (int p = 0; p < 2; p++) pair.person(-1, p == heavier ? 9 : 1, 0);
+            pair.tell(0, "1");
+            due(pair.rooms(3, 0, 0), 10);
+            due(pair.rooms(3, 0, 1), 1 << heavier);
+        }
         says(23, "twelve who all bar one another: one in each");
         Hall u = new Hall();
         for (int i = 0; i < 12; i++) u.person(-1, 1 + i, 0);
@@ -580,6 +628,7 @@ public final class BoundsTogether extends Bounds {
     public static void main(String[] args) {
         togetherArguments();
         togetherHours();
+        togetherWithAllThereMayBe();
         togetherSets();
         bars();
         toldArguments();
