@@ -196,14 +196,22 @@ public final class BoundsBlows extends Bounds {
         due(u.count(5), 1);
         due(u.ofPeace(0, 0), BROKEN);
         says(27, "THERE: o counts those alive");
-        Hall y = Hall.with(5);
+        Hall y = Hall.underOneLord(5);
         y.tell(HELPS, "0");
         y.tell(MUST, "o>2");
-        due(y.strike(1, 31, 0, 0), 3);
-        row(y, 1, 2, 3);
-        due(y.alive(), 17);
+        due(y.strike(102, 62, 0, 0), 3);
+        row(y, 102, 103, 104);
+        due(y.alive(), 34);
+        due(y.strike(102, 63, 0, 0), 4);
+        row(y, 102, 100, 103, 104);
         y.tell(MUST, "o>4");
-        due(y.strike(1, 31, 0, 0), 1);
+        due(y.strike(102, 62, 0, 0), 1);
+        Hall free = Hall.with(5);
+        free.tell(HELPS, "o>1");
+        free.tell(MUST, "o>1");
+        due(free.strike(1, 31, 0, 0), 1);
+        free.tell(MUST, "o");
+        due(free.strike(1, 31, 0, 0), 4);
         says(27, "till nobody must, or 31 blows");
         Hall z = Hall.with(32);
         z.tell(MUST, "1");
@@ -227,13 +235,13 @@ public final class BoundsBlows extends Bounds {
 
     private static void whoStruckByThen() {
         says(27, "some one alive who struck by then: not in the latest blow alone, the first by numbers");
-        Hall x = Hall.with(5);
-        x.feud(203, 0, 0);
-        x.sword(4, 1);
+        Hall x = Hall.underOneLord(5);
+        x.feud(304, 0, 0);
+        x.sword(5, 1);
         x.tell(HELPS, "o<4&w");
-        due(x.strike(1, 31, 0, 0), 4);
-        row(x, 1, 203, 400, 402);
-        due(x.alive(), 16);
+        due(x.strike(102, 62, 0, 0), 4);
+        row(x, 102, 304, 501, 503);
+        due(x.alive(), 32);
         says(27, "d STEPS of r and who was struck: by the one whom r would strike");
         Hall y = Hall.with(6);
         y.feud(203, 0, 0);

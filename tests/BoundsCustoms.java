@@ -382,6 +382,19 @@ public final class BoundsCustoms extends Bounds {
         due(z.must(3002, 0xffffffffL, 0), 29);
         due(z.must(3100, 0xffffffffL, 0), 1);
         due(z.must(3130, 0xfffffffcL, 0), 1);
+        due(z.must(3130, 0xffffffffL, 0), 1);
+        says(19, "o of one without a LORD, which is an earlier one: none has one LORD with it, it is counted itself");
+        for (int pq : new int[] {1, 100, 2, 102, 31, 131}) due(z.must(pq, 0xffffffffL, 0), 1);
+        due(z.must(1, 3, 0), 1);
+        due(z.must(100, 3, 0), 1);
+        due(z.must(201, 0b111, 0), 1);
+        due(z.must(201, 0b1111, 0), 2);
+        Hall free = Hall.with(32);
+        free.tell(MUST, "o");
+        for (int p = 1; p < 32; p++) {
+            due(free.must(p, 0xffffffffL, 0), 1);
+            due(free.must(100 * p, 1L << p | 1, 0), 1);
+        }
     }
 
     private static void namesOfUses() {
@@ -463,8 +476,19 @@ public final class BoundsCustoms extends Bounds {
         helps(x, "k=1&d=2", true);
         helps(x, "d<2", false);
         says(27, "of HELPS: o, of those alive there");
-        helps(x, "o=2", true);
-        helps(x, "o>2", false);
+        helps(x, "o=1", true);
+        helps(x, "o>1", false);
+        Hall one = Hall.underOneLord(4);
+        one.tell(MUST, "0");
+        String[] texts = {"o>3", "o=3", "o>2", "o=2"};
+        for (int i = 0; i < texts.length; i++) {
+            one.tell(HELPS, texts[i]);
+            due(one.strike(102, 0b11110, 10, 0), i == 0 || i == 3 ? 1 : 2);
+            due(one.blow(1), i == 0 || i == 3 ? -1 : 301);
+        }
+        one.tell(HELPS, "o=1");
+        due(one.strike(102, 0b11111, 10, 0), 2);
+        due(one.blow(1), 1);
         says(27, "of HELPS: l, whether who struck is the LORD of r");
         helps(x, "l", false);
         Hall y = new Hall();
@@ -499,15 +523,20 @@ public final class BoundsCustoms extends Bounds {
         x.tell(MUST, "0");
         x.tell(HELPS, "0");
         x.strike(3, 9, 0, 1);
-        x.tell(MUST, "o");
         due(x.must(3, 15, 0), VOID);
         due(x.must(300, 15, 0), VOID);
-        due(x.must(1, 15, 0), 3);
-        due(x.must(1, 11, 0), 2);
-        Hall y = Hall.with(32);
+        due(x.must(1, 15, 0), 0);
+        says(19, "o: the dead are no more THERE");
+        Hall y = Hall.underOneLord(31);
         y.tell(MUST, "o");
-        due(y.must(3130, 0xffffffffL, 0), 32);
+        due(y.must(3130, 0xffffffffL, 0), 31);
         due(y.must(3130, 0xc0000000L, 0), 2);
+        y.tell(MUST, "0");
+        y.tell(HELPS, "0");
+        y.strike(3029, 3L << 29, 0, 1);
+        y.tell(MUST, "o");
+        due(y.must(3130, 0xffffffffL, 0), 30);
+        due(y.must(3130, 0xe0000000L, 0), 2);
         due(y.must(3130, 0x1ffffffffL, 0), VOID);
     }
 

@@ -86,7 +86,7 @@ public final class NaiveCompare {
 
         int ask(int use, int p, int q, int struck, List<Integer> there, int h) {
             int n = near(p, q, h), o = 0;
-            for (int r : there) if (people.get(r).lord == people.get(p).lord) o++;
+            for (int r : there) if (r == p || people.get(r).lord != -1 && people.get(r).lord == people.get(p).lord) o++;
             int[] v = new int[128];
             v['f'] = n < 99 ? 1 : 0;
             v['n'] = Math.min(9, n);

@@ -9,6 +9,13 @@ public final class Promises {
         System.out.println("promise " + promise + ": " + call + " answered " + got + ", due is " + want);
     }
 
+    /** 0 is the lord of all the others. */
+    private static OneRoof underOneLord(int others) {
+        OneRoof x = hall(1);
+        for (int i = 0; i < others; i++) x.person(0, 5, 0);
+        return x;
+    }
+
     /** People without lords, of weight 5, with swords hung up. */
     private static OneRoof hall(int people) {
         OneRoof x = new OneRoof();
@@ -398,7 +405,7 @@ public final class Promises {
         due("covered", x.must(104, 31, 20), 0);
         Object[][] texts = {{"f", 104, 1}, {"f", 4, 0}, {"n", 104, 1}, {"n", 4, 9}, {"c", 104, 2}, {"c", 401, 2}, {"c", 4, 0}, {"w", 4, 1}, {"w", 104, 0},
             {"v", 1, 0}, {"v", 104, 0}, {"v", 102, 1}, {"l", 200, 1}, {"l", 201, 1}, {"l", 2, 0}, {"l", 104, 0}, {"k", 2, 2}, {"k", 4, 9}, {"k", 100, 1},
-            {"o", 104, 2}, {"o", 304, 2}, {"o", 204, 1}, {"o", 401, 2}, {"d", 2, 0},
+            {"o", 104, 2}, {"o", 304, 2}, {"o", 204, 1}, {"o", 401, 1}, {"o", 1, 1}, {"d", 2, 0},
             {"7/2", 1, 3}, {"-7/2", 1, -3}, {"-7%4", 1, -3}, {"7/0", 1, 0}, {"7%0", 1, 0}, {"9999*9999*9999", 1, 9999 * 9999 * 9999}, {"2-3-4", 1, -5}, {"2+3*4", 1, 14},
             {"(2+3)*4", 1, 20}, {"!0+!5", 1, 1}, {"5|0", 1, 1}, {"5&7", 1, 1}, {"5&0", 1, 0}, {"1|0&0", 1, 1}, {"1<2", 1, 1}, {"2<2", 1, 0}, {"2=2", 1, 1},
             {"3>2", 1, 1}, {"1+1=2&3>1+1", 1, 1}, {"0?5", 1, 0}, {"0?5;7", 1, 7}, {"3?5;7", 1, 5}, {"0;7", 1, 0}, {"-1?-4", 1, -4}, {"0?1;0?2;6?3", 1, 3},
@@ -452,9 +459,10 @@ public final class Promises {
         due("what 3", x.together(15, 100040, 3), -1);
         due("one to come", x.together(31, 100040, 0), -1);
         due("there -1", x.together(-1, 100040, 0), -1);
-        tell(x, 0, "o>3");
-        due("o of all there", x.together(15, 0, 0), 0);
-        due("o of three", x.together(14, 0, 0), -2);
+        OneRoof y = underOneLord(4);
+        tell(y, 0, "o>3");
+        due("o of all there", y.together(30, 0, 0), 0);
+        due("o of three", y.together(15, 0, 0), -2);
     }
 
     private static void bars() {
@@ -474,13 +482,15 @@ public final class Promises {
         due("one is enough", x.bars(203, 0), 1);
         due("the other way round, too", x.bars(302, 0), 1);
         due("neither", x.bars(1, 0), 0);
-        tell(x, 0, "o>2");
-        due("o of the two alone", x.bars(1, 0), 0);
-        tell(x, 0, "0");
-        tell(x, 1, "0");
-        x.strike(1, 3, 0, 1);
-        tell(x, 0, "o=2");
-        due("dead or not", x.bars(1, 0), 1);
+        OneRoof y = underOneLord(3);
+        tell(y, 0, "o>2");
+        due("o of the two alone", y.bars(102, 0), 0);
+        tell(y, 0, "0");
+        tell(y, 1, "0");
+        y.strike(102, 6, 0, 1);
+        tell(y, 0, "o=2");
+        due("dead or not", y.bars(102, 0), 1);
+        due("0 has no lord", y.bars(1, 0), 0);
     }
 
     private static void most() {
@@ -694,12 +704,14 @@ public final class Promises {
     }
 
     private static void strikeByCustoms() {
+        OneRoof w = underOneLord(5);
+        tell(w, 1, "0");
+        tell(w, 0, "o>2");
+        due("till two are left", w.strike(102, 62, 0, 0), 3);
+        due("by must, the first pair", w.blow(1), 103);
+        due("left", w.alive(), 0b100010);
         OneRoof x = hall(5);
         tell(x, 1, "0");
-        tell(x, 0, "o>2");
-        due("till two are left", x.strike(1, 31, 0, 0), 3);
-        due("by must, the first pair", x.blow(1), 2);
-        due("left", x.alive(), 0b10001);
         tell(x, 0, "1");
         due("till one is left", x.strike(403, 31, 0, 0), 4);
         due("who is left", x.alive(), 1);
@@ -730,15 +742,15 @@ public final class Promises {
     }
 
     private static void strikeAgain() {
-        // 0 strikes 1 and, by must, 3; kin of 1 strikes 0 only then, for the blow that is not its latest
-        OneRoof x = hall(4);
-        x.kin(1, 2);
-        x.feud(3, 0, 0);
+        // 1 strikes 2 and, by must, 4; kin of 2 strikes 1 only then, for the blow that is not its latest
+        OneRoof x = underOneLord(4);
+        x.kin(2, 3);
+        x.feud(104, 0, 0);
         tell(x, 0, "f");
         tell(x, 1, "d=1&o<3");
-        due("any blow of one who struck counts", x.strike(1, 15, 0, 0), 3);
-        due("by must", x.blow(1), 3);
-        due("for the first blow", x.blow(2), 200);
+        due("any blow of one who struck counts", x.strike(102, 30, 0, 0), 3);
+        due("by must", x.blow(1), 104);
+        due("for the first blow", x.blow(2), 301);
     }
 
     private static void blow() {

@@ -15,6 +15,13 @@ public final class Hall {
         return hall;
     }
 
+    /** A hall in which 0, without a lord, is the lord of all the others, otherwise as above. */
+    public static Hall underOneLord(int others) {
+        Hall hall = with(1);
+        for (int i = 0; i < others; i++) hall.person(0, 5, 0);
+        return hall;
+    }
+
     public static String latest() {
         return latest;
     }

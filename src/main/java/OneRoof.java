@@ -433,13 +433,17 @@ public final class OneRoof {
             return size++;
         }
 
-        /** Those without a lord have that in common too, so the one asked for always counts itself. */
+        /** One without a lord shares it with nobody, but is counted itself. */
         int sharingLord(int person, long there) {
             int sharing = 0;
             for (int r = 0; r < size; r++) {
-                if (isIn(there, r) && lord[r] == lord[person]) sharing++;
+                if (isIn(there, r) && (r == person || haveOneLord(r, person))) sharing++;
             }
             return sharing;
+        }
+
+        private boolean haveOneLord(int r, int person) {
+            return lord[r] >= 0 && lord[r] == lord[person];
         }
     }
 
